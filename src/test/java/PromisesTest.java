@@ -26,6 +26,7 @@ public final class PromisesTest {
         CHECKS.test("promise 10: storm", PromisesTest::storm);
         CHECKS.test("promise 10: what is regretted", PromisesTest::regret);
         CHECKS.test("promise 10: regret for fewer plots than were felled", PromisesTest::regretOfFew);
+        CHECKS.test("promise 10: regret for the corners", PromisesTest::regretOfCorners);
         CHECKS.test("promise 11: type", PromisesTest::type);
         CHECKS.test("promise 12: clearText", PromisesTest::clearText);
         CHECKS.test("promise 13: perform", PromisesTest::perform);
@@ -35,6 +36,7 @@ public final class PromisesTest {
         CHECKS.test("promise 14: stopped", PromisesTest::stopped);
         CHECKS.test("promise 15: undo", PromisesTest::undo);
         CHECKS.test("promise 15: undo brings all of a state back", PromisesTest::undoOfAll);
+        CHECKS.test("promise 15: undo of each act", PromisesTest::undoOfEach);
         CHECKS.test("promise 15: what is no act records nothing", PromisesTest::noActs);
         CHECKS.test("promise 16: keep", PromisesTest::keep);
         CHECKS.test("promise 17: restore", PromisesTest::restore);
@@ -468,6 +470,25 @@ public final class PromisesTest {
         due("regretted: one loss for two plots", x.count(9), 114);
     }
 
+    private static void regretOfCorners() {
+        StormFelling x = new StormFelling();
+        x.set(0, 30);
+        x.endDays(1);
+        for (int row = 0; row < 8; row++) {
+            x.hint(row, 3);
+        }
+        x.grow(0, 1);
+        x.fell(0);
+        x.go(2, 63);
+        x.grow(63, 1);
+        x.fell(2);
+        x.grow(3, 1);
+        x.grow(59, 99);
+        x.grow(51, 1);
+        due("storm()", x.storm(), 101);
+        due("regretted: 0 and 63 were felled in vain", x.count(9), 100);
+    }
+
     private static void type() {
         StormFelling x = new StormFelling();
         due("type('t')", x.type('t'), 1);
@@ -754,6 +775,79 @@ public final class PromisesTest {
         due("count(14)", x.count(14), 2);
     }
 
+    /** After an act the one before it still stands when the latest is undone. */
+    private static void undoOfEach() {
+        StormFelling x = new StormFelling();
+        x.rain(2);
+        x.grow(0, 50);
+        x.undo();
+        due("rain, not grow", x.plot(0, 1), 2);
+        due("rain, not grow", x.plot(0, 0), 0);
+        x.grow(0, 50);
+        x.rain(2);
+        x.undo();
+        due("grow, not rain", x.plot(0, 0), 50);
+        due("grow, not rain", x.plot(0, 1), 2);
+        x.grow(0, 51);
+        x.endDays(2);
+        x.undo();
+        due("grow, not endDays", x.plot(0, 0), 51);
+        due("grow, not endDays", x.plot(0, 1), 2);
+        due("grow, not endDays", x.count(0), 0);
+        x.grow(0, 52);
+        x.set(1, 2);
+        x.undo();
+        due("grow, not set", x.plot(0, 0), 52);
+        due("grow, not set", x.count(13), 0);
+        x.grow(0, 53);
+        x.go(1, 4);
+        x.undo();
+        due("grow, not go", x.plot(0, 0), 53);
+        due("grow, not go", x.crew(1, 0), 1);
+        due("grow, not go", x.crew(1, 1), 8);
+        x.grow(0, 54);
+        x.fell(0);
+        x.undo();
+        due("grow, not fell", x.plot(0, 0), 54);
+        due("grow, not fell", x.count(7), 0);
+        due("grow, not fell", x.crew(0, 3), 0);
+        due("grow, not fell", x.count(11), 0);
+        x.grow(0, 55);
+        x.hint(0, 0);
+        x.undo();
+        due("grow, not hint", x.plot(0, 0), 55);
+        due("grow, not hint", x.count(5), 11814);
+        x.hint(0, 0);
+        x.grow(0, 56);
+        x.takeBack(0);
+        x.undo();
+        due("grow, not takeBack", x.plot(0, 0), 56);
+        due("grow, not takeBack", x.count(5), 750);
+        x.hint(7, 7);
+        x.grow(8, 3);
+        x.go(1, 8);
+        x.fell(1);
+        x.grow(8, 4);
+        x.storm();
+        due("regretted", x.count(9), 56);
+        x.undo();
+        due("grow, not storm", x.plot(8, 0), 4);
+        due("grow, not storm", x.count(9), 0);
+        due("grow, not storm", x.count(8), 0);
+        due("grow, not storm", x.count(10), 0);
+        due("grow, not storm", x.count(11), 1);
+        x.keep();
+        x.grow(0, 57);
+        x.restore();
+        x.undo();
+        due("grow, not restore", x.plot(0, 0), 57);
+        x.grow(0, 58);
+        performed(x, "r9", 1);
+        x.undo();
+        due("grow, not perform", x.plot(0, 0), 58);
+        due("grow, not perform", x.plot(0, 1), 2);
+    }
+
     private static void noActs() {
         StormFelling x = new StormFelling();
         x.grow(0, 5);
@@ -924,6 +1018,13 @@ public final class PromisesTest {
         due("row(4, 1)", x.row(4, 1), 4);
         due("row(4, 2)", x.row(4, 2), 4);
         due("row(1, 1)", x.row(1, 1), 3);
+        due("row(7, 1)", x.row(7, 1), 7);
+        due("row(7, 2)", x.row(7, 2), 7);
+        x.takeBack(7);
+        due("hint(6, 0)", x.hint(6, 0), 18);
+        due("row(6, 1)", x.row(6, 1), 0);
+        due("row(6, 2)", x.row(6, 2), 0);
+        due("row(7, 2)", x.row(7, 2), 1);
     }
 
     private static void way() {
@@ -988,6 +1089,8 @@ public final class PromisesTest {
         due("reason(0, 0)", x.reason(0, 0), 0);
         due("reason(0, 1)", x.reason(0, 1), 3);
         due("place stays", x.crew(0, 0), 0);
+        x.grow(63, 1);
+        due("reason(2, 63)", x.reason(2, 63), 2);
     }
 
     private static void best() {
@@ -1095,11 +1198,14 @@ public final class PromisesTest {
         due("felled, each once", x.count(11), 3);
         x.hint(0, 0);
         due("endangered", x.count(2), 16);
+        due("doomed", x.count(3), 16);
         due("stand to lose", x.count(4), 12);
         due("storm()", x.storm(), 12);
         due("worth", x.count(1), 0);
         due("lost", x.count(8), 12);
         due("regretted", x.count(9), 12);
+        due("endangered with all paths left", x.count(2), 64);
+        due("doomed with all paths left", x.count(3), 0);
         due("storms", x.count(10), 1);
         due("felled since the storm", x.count(11), 0);
         due("saved", x.count(7), 12);
