@@ -21,6 +21,11 @@ final class Checks {
         }
     }
 
+    /** A test that is a run of calls, one a row: see Script. */
+    void script(String name, String... rows) {
+        test(name, () -> new Script(this).play(rows));
+    }
+
     void due(String what, long got, long want) {
         if (got != want) {
             fail(what + " answered " + got + ", due is " + want);
