@@ -34,11 +34,14 @@ public final class LanguageTest {
         Path file = Path.of(arguments.length > 0 ? arguments[0] : "src/main/java/StormFelling.java");
         String source = Files.readString(file, StandardCharsets.US_ASCII);
         CHECKS.test("the face", LanguageTest::face);
+        CHECKS.test("the constants", LanguageTest::constants);
         CHECKS.test("no other member can be seen", LanguageTest::hidden);
         CHECKS.test("classes inside", LanguageTest::inside);
         CHECKS.test("no static state", LanguageTest::staticFields);
+        CHECKS.test("fields are of the types that are left", LanguageTest::fieldTypes);
         CHECKS.test("forbidden words", () -> words(source));
         CHECKS.test("methods are short", () -> lengths(source));
+        CHECKS.test("objects are made in constructors alone", () -> madeObjects(source));
         CHECKS.end();
     }
 
@@ -63,13 +66,6 @@ public final class LanguageTest {
         if (!found.equals(new TreeSet<>(Arrays.asList(FACE)))) {
             CHECKS.fail("the public methods are " + found);
         }
-        TreeSet<String> constants = new TreeSet<>();
-        for (Field field : StormFelling.class.getFields()) {
-            constants.add(field.getName());
-        }
-        if (!constants.equals(new TreeSet<>(Arrays.asList(CONSTANTS)))) {
-            CHECKS.fail("the public fields are " + constants);
-        }
         int modifiers = StormFelling.class.getModifiers();
         CHECKS.due("final", Modifier.isFinal(modifiers) ? 1 : 0, 1);
         Constructor<?>[] constructors = StormFelling.class.getDeclaredConstructors();
@@ -78,11 +74,37 @@ public final class LanguageTest {
         CHECKS.due("parameters", constructors[0].getParameterCount(), 0);
     }
 
+    private static void constants() {
+        TreeSet<String> constants = new TreeSet<>();
+        for (Field field : StormFelling.class.getFields()) {
+            constants.add(field.getName());
+        }
+        if (!constants.equals(new TreeSet<>(Arrays.asList(CONSTANTS)))) {
+            CHECKS.fail("the public fields are " + constants);
+            return;
+        }
+        for (int index = 0; index < CONSTANTS.length; index++) {
+            try {
+                Field field = StormFelling.class.getField(CONSTANTS[index]);
+                int modifiers = Modifier.PUBLIC | Modifier.STATIC | Modifier.FINAL;
+                CHECKS.due("modifiers of " + CONSTANTS[index], field.getModifiers(), modifiers);
+                CHECKS.due("int", field.getType() == int.class ? 1 : 0, 1);
+                CHECKS.due(CONSTANTS[index], field.getInt(null), -1 - index);
+            } catch (ReflectiveOperationException fault) {
+                CHECKS.fail(CONSTANTS[index] + ": " + fault);
+            }
+        }
+    }
+
     private static void hidden() {
+        TreeSet<String> publicNames = publicNames();
         for (Method method : StormFelling.class.getDeclaredMethods()) {
             int modifiers = method.getModifiers();
             if (!Modifier.isPublic(modifiers) && !Modifier.isPrivate(modifiers)) {
                 CHECKS.fail("the method " + method.getName() + " is not private");
+            }
+            if (Modifier.isPrivate(modifiers) && publicNames.contains(method.getName())) {
+                CHECKS.fail("a private method has the public name " + method.getName());
             }
         }
         for (Field field : StormFelling.class.getDeclaredFields()) {
@@ -93,11 +115,16 @@ public final class LanguageTest {
         }
     }
 
-    private static void inside() {
+    private static TreeSet<String> publicNames() {
         TreeSet<String> publicNames = new TreeSet<>();
         for (String method : FACE) {
             publicNames.add(method.substring(4, method.indexOf('(')));
         }
+        return publicNames;
+    }
+
+    private static void inside() {
+        TreeSet<String> publicNames = publicNames();
         for (Class<?> type : StormFelling.class.getDeclaredClasses()) {
             int modifiers = type.getModifiers();
             if (!Modifier.isStatic(modifiers) || Modifier.isPublic(modifiers)) {
@@ -109,6 +136,9 @@ public final class LanguageTest {
             for (Method method : type.getDeclaredMethods()) {
                 if (publicNames.contains(method.getName())) {
                     CHECKS.fail(type + " has a method with the public name " + method.getName());
+                }
+                if (method.getParameterCount() > 7) {
+                    CHECKS.fail(type + "." + method.getName() + " has too many parameters");
                 }
             }
         }
@@ -134,8 +164,48 @@ public final class LanguageTest {
         }
     }
 
+    private static void fieldTypes() {
+        List<Class<?>> fixed = List.of(int.class, long.class, boolean.class, char.class,
+                String.class, int[].class, long[].class, char[].class, byte[].class);
+        List<Class<?>> kept = new ArrayList<>(classes());
+        for (Class<?> type : classes()) {
+            kept.add(type.arrayType());
+        }
+        kept.addAll(fixed);
+        kept.add(boolean[].class);
+        for (Class<?> type : classes()) {
+            for (Field field : type.getDeclaredFields()) {
+                boolean isStatic = Modifier.isStatic(field.getModifiers());
+                if (!(isStatic ? fixed : kept).contains(field.getType())) {
+                    CHECKS.fail("the field " + field + " has a type that is not left");
+                }
+            }
+        }
+    }
+
+    private static String codeOf(String source) {
+        return source.replaceAll("(?s)/\\*.*?\\*/", "").replaceAll("//[^\n]*", "");
+    }
+
+    /** All calls of a run live in one room: no call makes an object. */
+    private static void madeObjects(String source) {
+        boolean inConstructor = false;
+        for (String line : codeOf(source).split("\n")) {
+            if (line.matches(" {4}( {4})?\\S.*\\{")) {
+                inConstructor = line.matches(" +(public )?[A-Z]\\w*\\(\\) \\{");
+            }
+            boolean isField = line.matches(" {4}( {4})?private final .* = new .*;");
+            if (line.matches(".*\\bnew\\b.*") && !isField && !inConstructor) {
+                CHECKS.fail("an object is made by a call: " + line.trim());
+            }
+            if (line.contains("\"")) {
+                CHECKS.fail("a text is made: " + line.trim());
+            }
+        }
+    }
+
     private static void words(String source) {
-        String code = source.replaceAll("(?s)/\\*.*?\\*/", "").replaceAll("//[^\n]*", "");
+        String code = codeOf(source);
         for (String word : FORBIDDEN) {
             boolean letters = Character.isLetter(word.charAt(0));
             String pattern = Pattern.quote(word);
